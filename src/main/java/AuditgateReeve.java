@@ -321,8 +321,8 @@ public final class AuditgateReeve {
         Token from = needToken(token);
         needActor(other);
         needRange(rights, 1, ALL);
-        needRange(until, now, LAST_MOMENT);
         needSubset(rights, from.rights);
+        // No token lasts beyond the last moment, so neither does a narrower one.
         needRange(until, now, from.until);
         needPower(from.holder == process);
         needRoom(tokenCount, tokens.length);

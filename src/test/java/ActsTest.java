@@ -14,6 +14,7 @@ public final class ActsTest {
         promise18();
         promise18Verdicts();
         promise19();
+        promise19Things();
         promise20();
         promise21();
         promise22();
@@ -187,6 +188,25 @@ public final class ActsTest {
         Check.outOfRange("an eleventh of rights 0", () -> x.token(0, 0, 0, 5));
         Check.noSuchOne("an eleventh of no process", () -> x.token(-1, 0, 1, 5));
         Check.noSuchOne("there is no token 10", () -> x.actBy(0, 10, 1));
+    }
+
+    private static void promise19Things() {
+        AuditgateReeve x = withRules();
+        x.thing(NONE, 1, 0, 0);
+        x.thing(NONE, 1, 0, 0700);
+        x.process(1, 0, 0, 0, 0, 0);
+        x.process(2, 0, 0, 0, 0, 0);
+        x.token(0, 0, 7, 9);
+        x.token(0, 1, 7, 9);
+        x.narrow(0, 1, 7, 9, 1);
+        Check.is("for the first thing", x.actBy(0, 0, LOOK), 1);
+        Check.is("for the second", x.actBy(0, 1, LOOK), 0);
+        Check.is("narrowed, for the second", x.actBy(1, 2, LOOK), 0);
+        for (int entry = 0; entry < 3; entry++) {
+            Check.is("the thing is logged, " + entry, x.logged(entry, 2), entry == 0 ? 0 : 1);
+        }
+        x.takeBack(0, 0);
+        Check.is("a made one is from no other", x.actBy(0, 1, LOOK), 0);
     }
 
     private static void promise20() {

@@ -12,12 +12,14 @@ public final class QuestionsTest {
         ownersAndOthers();
         usersWithEntries();
         groupsAndEntries();
+        firstOnes();
         passingBy();
         labels();
         rulesAndFilters();
         wrongArguments();
         reachByMoves();
         reachByOwners();
+        reachByTheFirst();
         leastRights();
         Check.end();
     }
@@ -115,6 +117,29 @@ public final class QuestionsTest {
         verdicts("an entry without rights is one", x, 1, 0, 1, 1, 1);
         x.entry(0, 0, true, 4, NONE, false);
         verdicts("among others without it", x, 1, 0, 0, 0, 0);
+    }
+
+    /** User 0, group 0 and thing 0 count like all others. */
+    private static void firstOnes() {
+        AuditgateReeve x = withRules();
+        x.thing(NONE, 1, 4, 0060);
+        x.process(0, 0, 0, 0, 0, 0);
+        x.process(1, 0, 0, 0, 1, 1);
+        x.process(2, 0, 0, 0, 0, 0);
+        x.member(4, false, 0, true);
+        verdicts("user 0 by the group", x, 0, 0, 1, 0, 0);
+        leasts("user 0 by the group", x, 0, 0, 0, 1, 1);
+        x.entry(1, 0, false, 0, 1, false);
+        verdicts("user 0 by an entry", x, 0, 0, 0, 1, 1);
+        leasts("user 0 by an entry", x, 0, 0, 1, 0, 0);
+        x.entry(1, 0, false, 0, 4, false);
+        verdicts("the right of user 0's entry to run", x, 1, 0, 0, 0, 0);
+        x.mode(1, 0, 0);
+        verdicts("that right alone", x, 1, 0, 0, 0, 0);
+        x.entry(1, 0, true, 0, 3, false);
+        x.member(0, false, 2, true);
+        verdicts("by the entry of group 0", x, 2, 0, 0, 0, 1);
+        leasts("by the entry of group 0", x, 2, 0, 1, 1, 0);
     }
 
     private static void passingBy() {
@@ -268,6 +293,24 @@ public final class QuestionsTest {
         x.label(labeller, root, 1, 0);
         reaches("the level stays", x, 2, goal, CHANGE, NONE);
         Check.is("the process is as it was", x.about(2, 0) * 10 + x.about(2, 4), 10);
+    }
+
+    private static void reachByTheFirst() {
+        AuditgateReeve x = withRules();
+        int step = x.thing(NONE, 3, 2, 01704);
+        int goal = x.thing(NONE, 3, 2, 0700);
+        x.process(1, 0, 1, 6, 0, 0);
+        reaches("by thing 0", x, 0, goal, LOOK, 1);
+        int labeller = x.process(5, 0, 3, 7, 4, 4);
+        x.label(labeller, step, 1, 4);
+        reaches("with its categories", x, 0, goal, LOOK, 1);
+        x.label(labeller, step, 1, 1);
+        reaches("without that category", x, 0, goal, LOOK, NONE);
+        x.label(labeller, step, 0, 0);
+        x.filter(0, 5);
+        x.label(labeller, goal, 1, 6);
+        reaches("with its filter", x, 0, goal, LOOK, 1);
+        reaches("which does not let it change", x, 0, goal, CHANGE, NONE);
     }
 
     private static void leastRights() {
