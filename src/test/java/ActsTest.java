@@ -11,6 +11,7 @@ public final class ActsTest {
     public static void main(String[] args) {
         promise17();
         promise17Runs();
+        promise17RunsNothing();
         promise18();
         promise18Verdicts();
         promise19();
@@ -82,6 +83,19 @@ public final class ActsTest {
         int two = x.process(4, 0, 0, 0, 3, 3);
         x.act(two, byUser, RUN);
         Check.is("one's own with bit 9 takes the fine rights too", x.about(two, 4), 0);
+    }
+
+    private static void promise17RunsNothing() {
+        AuditgateReeve x = withRules();
+        x.thing(NONE, 5, 0, 01703);
+        x.move(1, 0, 2);
+        x.process(1, 1, 0, 0, 0, 0);
+        Check.is("allowed to look", x.act(0, 0, LOOK), 0);
+        Check.is("allowed to change", x.act(0, 0, CHANGE), 0);
+        Check.is("refused to run", x.act(0, 0, RUN), 1);
+        Check.is("the user stays", x.about(0, 0), 1);
+        Check.is("the domain stays", x.about(0, 1), 1);
+        Check.is("all are logged", x.entries(), 3);
     }
 
     private static void whole(String when, AuditgateReeve x, int user, int domain, int fine) {

@@ -139,6 +139,12 @@ public final class QuestionsTest {
         x.entry(1, 0, true, 0, 3, false);
         x.member(0, false, 2, true);
         verdicts("by the entry of group 0", x, 2, 0, 0, 0, 1);
+        x.member(4, false, 0, false);
+        x.member(0, false, 0, true);
+        x.entry(1, 0, false, 0, NONE, false);
+        verdicts("user 0 by the entry of group 0", x, 0, 0, 0, 0, 1);
+        x.member(0, false, 0, false);
+        verdicts("user 0 no more in it", x, 0, 0, 1, 1, 1);
         leasts("by the entry of group 0", x, 2, 0, 1, 1, 0);
     }
 
@@ -311,6 +317,18 @@ public final class QuestionsTest {
         x.label(labeller, goal, 1, 6);
         reaches("with its filter", x, 0, goal, LOOK, 1);
         reaches("which does not let it change", x, 0, goal, CHANGE, NONE);
+        x.process(0, 0, 1, 6, 0, 0);
+        reaches("by user 0 in domain 0 without fine rights", x, 2, goal, LOOK, 1);
+        for (int i = 2; i < 12; i++) {
+            x.thing(NONE, 5, 0, 01004);
+        }
+        reaches("among twelve things", x, 2, goal, LOOK, 1);
+        reaches("by the last of them", x, 2, 11, CHANGE, NONE);
+        x.mode(labeller, 11, 01204);
+        x.type(11, 1);
+        reaches("with the label in the way", x, 2, 11, CHANGE, NONE);
+        x.label(labeller, 11, 1, 6);
+        reaches("by ten others", x, 2, 11, CHANGE, 1);
     }
 
     private static void leastRights() {

@@ -63,6 +63,7 @@ public final class ThingsTest {
         x.entry(0, 0, false, 2, 6, true);
         x.entry(0, 0, true, 4, 5, true);
         x.entry(0, 0, false, 4, 3, false);
+        x.entry(0, 0, false, 0, 4, true);
         x.mask(0, 0, 1);
         x.thing(0, 1, 0, 0);
         x.thing(1, 1, 0, 0);
@@ -70,6 +71,7 @@ public final class ThingsTest {
         for (int thing = 1; thing < 3; thing++) {
             Check.is("the mask is not handed down", x.mask(0, thing, 7), 7);
             Check.is("by the entry handed down", x.verdict(1, thing, 4), 0);
+            Check.is("user 0's is handed down", x.entry(0, thing, false, 0, NONE, false), 4);
         }
         x.entry(0, 0, true, 3, 2, true);
         Check.is("things that are there do not get it", x.entry(0, 1, true, 3, NONE, false), NONE);
