@@ -5,6 +5,7 @@ final class Check {
     }
 
     private static int wrong = 0;
+    private static String tested = "";
 
     private Check() {
     }
@@ -50,9 +51,14 @@ final class Check {
         }
     }
 
+    /** What is tested from here on; it stands ahead of each report. */
+    static void testing(String what) {
+        tested = what.isEmpty() ? "" : what + "\n    ";
+    }
+
     static void report(String fault) {
         wrong++;
-        System.out.println(fault);
+        System.out.println(tested + fault);
     }
 
     static void end() {
