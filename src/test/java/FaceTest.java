@@ -122,6 +122,31 @@ public final class FaceTest {
         }
     }
 
+    /** Names that begin with a capital and go on small are of classes: its own, or those that rules 4 and 6 list. */
+    private static void library(String code) {
+        Set<String> known = new TreeSet<>(List.of("AuditgateReeve", "String", "StringBuilder", "Integer", "Long",
+            "Math", "List", "ArrayList", "Iterator", "Iterable", "Comparable", "System", "Arrays", "IllegalStateException",
+            "IllegalArgumentException", "IndexOutOfBoundsException", "ArithmeticException",
+            "UnsupportedOperationException", "NoSuchElementException", "RuntimeException"));
+        for (Class<?> inner : AuditgateReeve.class.getDeclaredClasses()) {
+            known.add(inner.getSimpleName());
+        }
+        Matcher names = Pattern.compile("\\b[A-Z][a-z]\\w*").matcher(code);
+        while (names.find()) {
+            if (!known.contains(names.group())) {
+                Check.report("the source uses " + names.group());
+            }
+        }
+        Matcher calls = Pattern.compile("\\b(Integer|Long|Math|System|Arrays|String|List)\\.(\\w+)").matcher(code);
+        Set<String> functions = Set.of("compare", "max", "min", "abs", "bitCount", "floorDiv", "floorMod", "arraycopy",
+            "copyOf", "copyOfRange", "fill", "of");
+        while (calls.find()) {
+            if (!functions.contains(calls.group(2))) {
+                Check.report("the source calls " + calls.group());
+            }
+        }
+    }
+
     private static void source(String text) {
         for (int i = 0; i < text.length(); i++) {
             if (text.charAt(i) > 126 || text.charAt(i) < 32 && text.charAt(i) != '\n') {
@@ -138,6 +163,7 @@ public final class FaceTest {
                 Check.report("the source has " + found.group());
             }
         }
+        library(code.replaceAll("\"[^\"\\n]*\"", ""));
         int begun = 0;
         String[] lines = text.split("\n");
         for (int i = 0; i < lines.length; i++) {

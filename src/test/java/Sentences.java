@@ -6,18 +6,19 @@ import java.util.ArrayList;
 import java.util.LinkedHashMap;
 import java.util.List;
 import java.util.Map;
-import java.util.regex.Pattern;
 
 /** The sentences of the document, each with the test that holds it, and a look for those that no test holds. */
 final class Sentences {
     private static final Path DOCUMENT = Path.of("../shared/DOC.md");
+    private static final String FENCE = "```";
+    private static final String PROMISE = "Promise ";
+    /** The parts of "Terms", in which lines without a full stop are titles. */
     private static final List<String> TERMS = List.of("Terms", "Verdicts", "The log", "Exceptions");
-    /** The lines of a promise that name a boundary: ranges, what is thrown, and answers at an end. */
-    private static final Pattern BOUNDARY = Pattern.compile("- `.*|Throws .*|Returns .*(NONE|at most|0 if|still).*"
-        + "|.*Begins with empty .*|.*type 0, level 0.*");
 
     private static final Map<String, List<String>> lines = new LinkedHashMap<>();
     private static final Map<String, List<String>> held = new LinkedHashMap<>();
+    /** The lines of the public face, which FaceTest compares with the class. */
+    private static final List<String> face = new ArrayList<>();
     private static String part = "";
 
     private Sentences() {
@@ -25,11 +26,18 @@ final class Sentences {
 
     static void read() throws IOException {
         String heading = "";
+        boolean isFace = false;
         for (String line : Files.readAllLines(DOCUMENT, StandardCharsets.UTF_8)) {
-            if (line.startsWith("#")) {
+            if (line.startsWith(FENCE)) {
+                isFace = !isFace;
+            } else if (isFace) {
+                face.add(line.strip());
+            } else if (line.startsWith("#")) {
                 heading = line.replaceAll("^#+ ", "");
+                lines.put(heading, new ArrayList<>());
+            } else if (!line.isBlank()) {
+                lines.get(heading).add(line);
             }
-            lines.computeIfAbsent(heading, k -> new ArrayList<>()).add(line);
         }
     }
 
@@ -41,16 +49,24 @@ final class Sentences {
 
     /** Runs the test of a sentence, which has to stand in the document word for word. */
     static void holds(String sentence, Runnable test) {
-        String where = part + ": " + sentence;
-        boolean stands = false;
-        for (String line : lines.getOrDefault(part, List.of())) {
-            stands |= line.contains(sentence);
-        }
-        Check.is(where + " stands in the document", stands, true);
-        held.computeIfAbsent(part, k -> new ArrayList<>()).add(sentence);
-        Check.testing(where);
+        stands(sentence);
+        Check.testing(part + ": " + sentence);
         test.run();
         Check.testing("");
+    }
+
+    /** A sentence that leaves the class free, so that there is nothing in it to test. */
+    static void free(String sentence) {
+        stands(sentence);
+    }
+
+    private static void stands(String sentence) {
+        boolean stands = false;
+        for (String line : linesUnder(part)) {
+            stands |= line.contains(sentence);
+        }
+        Check.is(part + ": " + sentence + " stands in the document", stands, true);
+        held.computeIfAbsent(part, k -> new ArrayList<>()).add(sentence);
     }
 
     static List<String> linesUnder(String heading) {
@@ -60,46 +76,61 @@ final class Sentences {
     /** The heading "Promise 4: thing", for thing. */
     static String promiseOf(String call) {
         for (String heading : lines.keySet()) {
-            if (heading.matches("Promise \\d+: " + call)) {
+            if (heading.matches(PROMISE + "\\d+: " + call)) {
                 return heading;
             }
         }
         return "";
     }
 
+    /** Reports every word, from the first line to the last, that is neither held by a test nor free. */
     static void noneIsLeftOut() {
-        int clauses = 0;
-        for (String term : TERMS) {
-            for (String line : linesUnder(term)) {
-                if (line.equals("The constants: `NONE = -1`: There is none.")) {
-                    break;
-                }
-                // What does not end with a full stop is a title.
-                for (String clause : line.endsWith(".") ? line.split("(?<=[.;:]) ") : new String[0]) {
-                    clauses++;
-                    isHeld(term, clause);
-                }
-            }
-        }
-        int boundaries = 0;
+        int promises = 0;
+        int words = 0;
         for (String heading : lines.keySet()) {
-            for (String line : heading.startsWith("Promise ") ? lines.get(heading) : List.<String>of()) {
-                if (BOUNDARY.matcher(line).matches()) {
-                    boundaries++;
-                    isHeld(heading, line);
+            promises += heading.startsWith(PROMISE) ? 1 : 0;
+            for (String line : linesUnder(heading)) {
+                words += line.split(" ").length;
+                if (!TERMS.contains(heading) || line.endsWith(".")) {
+                    reportLeftOut(heading, line);
                 }
             }
         }
-        Check.is("there are clauses", clauses > 70, true);
-        Check.is("there are boundaries in the promises", boundaries > 110, true);
+        Check.is("the promises", promises, 34);
+        Check.is("there are words", words > 2500, true);
     }
 
-    private static void isHeld(String heading, String text) {
+    private static void reportLeftOut(String heading, String line) {
+        boolean[] isHeld = new boolean[line.length()];
         for (String sentence : held.getOrDefault(heading, List.of())) {
-            if (text.contains(sentence) || sentence.contains(text)) {
-                return;
+            for (int at = line.indexOf(sentence); at >= 0; at = line.indexOf(sentence, at + 1)) {
+                mark(isHeld, at, at + sentence.length());
             }
         }
-        Check.report("no test holds " + heading + ": " + text);
+        mark(isHeld, 0, signatureEnd(heading, line));
+        StringBuilder left = new StringBuilder();
+        for (int i = 0; i < isHeld.length; i++) {
+            left.append(isHeld[i] ? ' ' : line.charAt(i));
+        }
+        if (!left.toString().isBlank()) {
+            Check.report("no test holds " + heading + ": " + left.toString().strip());
+        }
+    }
+
+    private static void mark(boolean[] places, int from, int to) {
+        for (int i = from; i < to; i++) {
+            places[i] = true;
+        }
+    }
+
+    /** A promise begins with its call, which has to be the one of the public face. */
+    private static int signatureEnd(String heading, String line) {
+        int end = line.indexOf("`: ");
+        if (!heading.startsWith(PROMISE) || !line.startsWith("`") || end < 0) {
+            return 0;
+        }
+        String call = "public " + line.substring(1, end) + ";";
+        Check.is(call + " is in the public face", face.contains(call), true);
+        return end + 2;
     }
 }

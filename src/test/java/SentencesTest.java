@@ -1,8 +1,8 @@
 import java.io.IOException;
 
-/** Each sentence of the document that names a boundary, in the document's order, with a test of its own. */
-public final class BoundariesTest {
-    private BoundariesTest() {
+/** Each sentence of the document, from its first line to its last, with a test of its own. */
+public final class SentencesTest {
+    private SentencesTest() {
     }
 
     public static void main(String[] args) throws IOException {
@@ -11,9 +11,13 @@ public final class BoundariesTest {
         VerdictBoundaries.all();
         TokenBoundaries.all();
         LogBoundaries.all();
+        Interface.all();
         ThingBoundaries.all();
         ActBoundaries.all();
         QuestionBoundaries.all();
+        ThingSentences.all();
+        ProcessSentences.all();
+        ActSentences.all();
         RefusedCalls.all();
         Sentences.noneIsLeftOut();
         Check.end();
